@@ -31,6 +31,7 @@ public final class PromisesTest {
         drift();
         undo();
         undoHasTwenty();
+        fullOfMinutes();
         goodPages();
         life();
         toWhom();
@@ -199,6 +200,9 @@ public final class PromisesTest {
         fault("o1 0;", 2, 3);
         fault("o1 21;", 2, 3);
         fault("o0001 1;", 2, 1);
+        fault("o0010 1;", 2, 1);
+        fault("o1 1;q0 1 0 0000 1;", 2, 12);
+        fault("o1 1;h0 1 0050;", 2, 10);
         fault("o99999999999999999999 1;", 2, 1);
         fault("o21", 2, 1);
         fault("o21x", 2, 1);
@@ -475,6 +479,28 @@ public final class PromisesTest {
         DUE.is("14 pages stay", x.told(7), 13);
     }
 
+    /** It takes more than the 512 calls that are promised; the words of promises 8, 10, 12, 13 are kept beyond them. */
+    private static void fullOfMinutes() {
+        LeftQuills x = told(TEXT);
+        for (int i = 0; i < 1125; i++) {
+            x.write(0, 0, 40);
+        }
+        DUE.is("8 at 90000", x.told(5), 90000);
+        DUE.is("8 90000 is not above", x.write(0, 0, 1), 0);
+        DUE.is("8 full", x.write(0, 0, 1), FULL);
+        DUE.is("8 outside ahead of full", x.write(0, 0, 0), OUTSIDE);
+        DUE.is("10 full", x.mend(0), FULL);
+        DUE.is("12 full", x.whet(), FULL);
+        DUE.is("13 full", x.drift(1), FULL);
+        DUE.is("9 never full", x.dry(0, 1), 91);
+        DUE.is("11 never full", x.broaden(0), 5);
+        DUE.is("8 nothing changed", x.told(5), 90002);
+        x.undo();
+        x.undo();
+        x.undo();
+        DUE.is("12 not above again", x.whet(), 0);
+    }
+
     private static void goodPages() {
         LeftQuills x = told(TEXT);
         int[][] due = {{8, 6, 3, 0}, {0, 7, 0, 8}, {0, 0, 0, 0}};
@@ -592,6 +618,12 @@ public final class PromisesTest {
         DUE.is("18 mended", z.fastest(0, 1, 0), 10);
         DUE.is("18 then it writes on", z.fastest(0, 4, NONE), 10);
         DUE.is("18 not mended again", z.fastest(0, 4, 1), 0);
+        LeftQuills w = told("o1 3;q0 2 9 99 2;q0 1 0 0 4;q0 1 0 9 1;h0 9 4;");
+        w.broaden(2);
+        // quill 1 has one good page; quill 0 none till it is mended, also where it was tried mended ahead
+        DUE.is("18 quill 0 is mended", w.fastest(0, 2, NONE), 7);
+        DUE.is("18 page 0", w.fastest(0, 2, 0), 10);
+        DUE.is("18 page 1", w.fastest(0, 2, 1), 0);
     }
 
     private static void byTurns() {
@@ -607,7 +639,9 @@ public final class PromisesTest {
         DUE.is("19 unknown", x.byTurns(0, 3), UNKNOWN);
         LeftQuills y = told("o1 1;q0 2 9 0 9;q0 1 0 0 9;h0 1 8;h1 9 8;");
         DUE.is("19 one", y.byTurns(0, 0), 1);
-        y.write(0, 0, 31);
+        y.write(0, 0, 30);
+        DUE.is("19 one, to 50", y.byTurns(0, 0), 1);
+        y.write(0, 0, 1);
         DUE.is("19 one does no more", y.byTurns(0, 0), 2);
         // 40, 8, 48, 16 is too soft by five; 40, 2, 42, 3, 43, 3, 43 by six
         DUE.is("19 forty a page", y.byTurns(1, 1), 6);
