@@ -556,13 +556,10 @@ public final class LeftQuills {
             faultAt = NONE;
             length = Math.max(0, Math.min(textLength, Math.min(text.length, TEXT_MOST)));
             System.arraycopy(text, 0, letters, 0, length);
-            if (length == 0) {
-                return 0;
-            }
             // each clause has letters of its own, so there are never more clauses than letters
             for (int clause = 0; clause <= length; clause++) {
                 skipBlanks();
-                if (fault != 0 || (draft.stands && at >= length)) {
+                if (fault != 0 || at >= length) {
                     break;
                 }
                 readClause();

@@ -145,7 +145,7 @@ final class Model {
         String all = text.toString();
         text = new StringBuilder();
         State made = new State();
-        int[] found = all.isEmpty() ? new int[] {0, NONE} : read(tokens(all), made);
+        int[] found = read(tokens(all), made);
         fault = found[1];
         if (found[0] != 0) {
             return -10 - found[0];
@@ -187,12 +187,11 @@ final class Model {
         int t = 0;
         while (true) {
             Token word = tokens.get(t++);
-            boolean last = t == tokens.size();
-            if (last && made.office) {
+            if (t == tokens.size()) {
                 return new int[] {0, NONE};
             }
             char kind = (char) word.kind();
-            if (last || !BOUNDS.containsKey(kind) || (!made.office && kind != 'o')) {
+            if (!BOUNDS.containsKey(kind) || (!made.office && kind != 'o')) {
                 return new int[] {1, word.at()};
             }
             if (seen.merge(kind, 1, Integer::sum) > MOST.get(kind)) {

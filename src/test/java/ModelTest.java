@@ -128,7 +128,7 @@ public final class ModelTest {
 
     private void rare() {
         switch (random.nextInt(12)) {
-            case 0 -> text(goodText());
+            case 0 -> text(random.nextInt(6) == 0 ? blanks(random.nextInt(4)) : goodText());
             case 1 -> text(spoiled(goodText()));
             case 2, 3 -> text(spoiled(clause('o', 1, 20, 1, 20) + clause('q', 0, 1, 1, 5, 0, 9, 0, 99, 1, 9)));
             case 4 -> {

@@ -16,6 +16,7 @@ public final class PromisesTest {
         newObject();
         feed();
         office();
+        textsOfBlanks();
         officeClears();
         faultsOfLetters();
         faultsOfNumbers();
@@ -129,6 +130,38 @@ public final class PromisesTest {
         DUE.is("3 four hands", x.told(3), 4);
     }
 
+    private static void textsOfBlanks() {
+        for (int blanks : new int[] {1, 2, 3, 219, 220}) {
+            LeftQuills x = new LeftQuills();
+            DUE.is("3 blanks alone, " + blanks, Due.office(x, " ".repeat(blanks)), 0);
+            DUE.is("4 no fault in blanks alone, " + blanks, x.fault(), NONE);
+            DUE.is("3 blanks alone make no office, " + blanks, x.whet(), NOT);
+            DUE.is("3 the text of blanks is empty then, " + blanks, x.told(4), 0);
+        }
+        LeftQuills x = told(TEXT);
+        x.write(0, 0, 9);
+        x.mend(1);
+        x.worn(0, 1, 6);
+        x.note(0, 6);
+        x.keep(0);
+        x.whet();
+        x.seed(77);
+        DUE.is("3 a fault ahead of blanks alone", Due.office(x, "  q"), -11);
+        DUE.is("4 the fault ahead of blanks alone", x.fault(), 2);
+        DUE.is("3 blanks alone behind an office", Due.office(x, "  "), 0);
+        DUE.is("4 the fault is gone by blanks alone", x.fault(), NONE);
+        for (int what = 0; what <= 12; what++) {
+            DUE.is("3 blanks alone leave nothing told(" + what + ")", x.told(what), 0);
+        }
+        DUE.is("3 blanks alone leave no quill", x.quill(0, 0), UNKNOWN);
+        DUE.is("3 blanks alone leave no hand", x.hand(0, 0), UNKNOWN);
+        DUE.is("3 blanks alone leave no image", x.goBack(0), NOT);
+        DUE.is("3 blanks alone leave nothing to undo", x.undo(), NOT);
+        DUE.is("3 blanks alone leave no office", x.drift(1), NOT);
+        DUE.is("3 the seed stays by blanks alone", x.seed(0), 77);
+        DUE.is("3 an office behind blanks alone", Due.office(x, " " + TEXT), 4);
+    }
+
     private static void officeClears() {
         LeftQuills x = told(TEXT);
         x.write(0, 0, 9);
@@ -171,7 +204,9 @@ public final class PromisesTest {
         fault("  h0 1 1;", 1, 2);
         fault(";", 1, 0);
         fault("7", 1, 0);
-        fault("   ", 1, 3);
+        fault("   x", 1, 3);
+        fault("   ;", 1, 3);
+        fault("   \t", 1, 3);
         fault("o", 1, 1);
         fault("o  ", 1, 3);
         fault("o1", 1, 2);
