@@ -1,3 +1,5 @@
+import java.util.List;
+
 /** Counts the answers that are not the ones that are due. */
 final class Due {
     private int wrong = 0;
@@ -9,6 +11,20 @@ final class Due {
             wrong++;
             System.out.println(what + " answered " + got + ", due is " + want);
         }
+    }
+
+    /** Like lines, or the first that is not told. */
+    void same(String what, List<String> got, List<String> want) {
+        asked++;
+        if (got.equals(want)) {
+            return;
+        }
+        wrong++;
+        int at = 0;
+        while (at < got.size() && at < want.size() && got.get(at).equals(want.get(at))) {
+            at++;
+        }
+        System.out.println(what + ": " + (at < got.size() ? got.get(at) : "no more") + ", due is " + (at < want.size() ? want.get(at) : "no more"));
     }
 
     /** Exit code 1, if an answer was wrong. */

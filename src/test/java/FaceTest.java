@@ -60,7 +60,7 @@ public final class FaceTest {
         DUE.is("public methods", found, due.size());
     }
 
-    private static Map<String, Integer> dueMethods() {
+    static Map<String, Integer> dueMethods() {
         String[] byParameters = {
             "office fault whet undo dearer whose lookAt tear judge",
             "feed told mend broaden drift toWhom seed keep goBack",
