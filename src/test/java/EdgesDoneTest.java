@@ -44,6 +44,7 @@ public final class EdgesDoneTest {
         promise13NothingWithoutQuillsOrHands();
         promise13MendedIfItCanBe();
         promise13TheSeedIsLeftOverBy2ToThe31();
+        promise13OneQuillOneHand();
         promise14NotIfNone();
         promise14TwentyAtMost();
         promise14TheOldestAreLost();
@@ -60,6 +61,17 @@ public final class EdgesDoneTest {
 
     private static LeftQuills at90000() {
         return Edge.atTime(Edge.TEXT);
+    }
+
+    /** One above: 5 for the blade, 2 for each page. */
+    private static LeftQuills at90001() {
+        LeftQuills x = Due.with(Edge.TEXT);
+        x.whet();
+        for (int i = 0; i < 1124; i++) {
+            x.write(0, 0, 40);
+        }
+        x.write(0, 0, 38);
+        return x;
     }
 
     /** Quill 0 so soft, 0 to 99. */
@@ -116,11 +128,13 @@ public final class EdgesDoneTest {
 
     private static void promise8FullAbove90000() {
         DUE.is("8 minutes", at90000().told(5), 90000);
+        DUE.is("8 one minute more", at90001().told(5), 90001);
         DUE.is("8 90000 are not above", at90000().write(1, 1, 7), 7);
         LeftQuills x = at90000();
         DUE.is("8 all of it is written", x.write(1, 1, 40), 7);
         DUE.is("8 minutes go above", x.told(5), 90080);
         EDGE.refused("8 full by one page above", EdgesDoneTest::over, y -> y.write(1, 1, 1), FULL);
+        EDGE.refused("8 full at 90001", EdgesDoneTest::at90001, y -> y.write(1, 1, 1), FULL);
         EDGE.refused("8 full for 40", EdgesDoneTest::over, y -> y.write(0, 0, 40), FULL);
     }
 
@@ -278,6 +292,7 @@ public final class EdgesDoneTest {
 
     private static void promise10FullAbove90000() {
         DUE.is("10 90000 are not above", at90000().mend(0), 15);
+        EDGE.refused("10 full at 90001", EdgesDoneTest::at90001, x -> x.mend(0), FULL);
         EDGE.refused("10 full", EdgesDoneTest::over, x -> x.mend(0), FULL);
         EDGE.refused("10 full", EdgesDoneTest::over, x -> x.mend(1), FULL);
     }
@@ -324,6 +339,7 @@ public final class EdgesDoneTest {
 
     private static void promise12FullAbove90000() {
         DUE.is("12 90000 are not above", at90000().whet(), 0);
+        EDGE.refused("12 full at 90001", EdgesDoneTest::at90001, LeftQuills::whet, FULL);
         EDGE.refused("12 full", EdgesDoneTest::over, LeftQuills::whet, FULL);
     }
 
@@ -368,6 +384,7 @@ public final class EdgesDoneTest {
     private static void promise13FullAbove90000() {
         LeftQuills x = at90000();
         DUE.is("13 90000 are not above", x.drift(60) > 90000 ? 1 : 0, 1);
+        EDGE.refused("13 full at 90001", EdgesDoneTest::at90001, y -> y.drift(1), FULL);
         EDGE.refused("13 full", EdgesDoneTest::over, y -> y.drift(1), FULL);
         EDGE.refused("13 full", EdgesDoneTest::over, y -> y.drift(60), FULL);
     }
@@ -397,24 +414,47 @@ public final class EdgesDoneTest {
     }
 
     private static void promise13TheSeedIsLeftOverBy2ToThe31() {
-        String text = "o20 1;" + "q0 2 9 99 5;".repeat(7) + "h0 1 5;".repeat(3);
         for (int first : new int[] {0, 1, 65535, 65536, 1073741823, 1073741824, HIGHEST - 1, HIGHEST}) {
-            LeftQuills x = Due.with(text);
-            x.seed(first);
-            x.drift(1);
-            BigInteger seed = BigInteger.valueOf(first);
-            int[] drawn = new int[3];
-            int[] of = {7, 3, 3};
-            for (int i = 0; i < 3; i++) {
-                seed = seed.multiply(BigInteger.valueOf(1103515245)).add(BigInteger.valueOf(12345)).mod(BigInteger.TWO.pow(31));
-                drawn[i] = seed.intValueExact() / 65536 % of[i];
-            }
-            DUE.is("13 mended by " + first, x.quill(drawn[0], 3), drawn[2] == 0 ? 94 : 99);
-            DUE.is("13 a page by " + first, x.quill(drawn[0], 6), drawn[2] == 2 ? 1 : 0);
-            DUE.is("13 whose page by " + first, x.hand(drawn[1], 3), drawn[2] == 2 ? 1 : 0);
-            DUE.is("13 no other page by " + first, x.told(7), drawn[2] == 2 ? 1 : 0);
-            DUE.is("13 the seed behind " + first, x.seed(0), seed.intValueExact());
+            drawn(first, 7, 3);
+            drawn(first, 8, 4);
         }
+    }
+
+    /** Also a draw of 1 moves the seed. */
+    private static void promise13OneQuillOneHand() {
+        for (int first = 0; first < 20; first++) {
+            drawn(first, 1, 1);
+            drawn(first, 1, 4);
+            drawn(first, 8, 1);
+        }
+    }
+
+    /** One time by draws from the seed on, all quills at 30 first, against the document's words in great numbers. */
+    private static void drawn(int first, int quills, int hands) {
+        LeftQuills x = Due.with("o20 1;" + "q0 2 9 99 5;".repeat(quills) + "h0 1 5;".repeat(hands));
+        for (int q = 0; q < quills; q++) {
+            x.write(q, 0, 30);
+        }
+        x.seed(first);
+        x.drift(1);
+        BigInteger seed = BigInteger.valueOf(first);
+        int[] drawn = new int[3];
+        int[] of = {quills, hands, 3};
+        for (int i = 0; i < 3; i++) {
+            seed = seed.multiply(BigInteger.valueOf(1103515245)).add(BigInteger.valueOf(12345)).mod(BigInteger.TWO.pow(31));
+            drawn[i] = seed.intValueExact() / 65536 % of[i];
+        }
+        String what = "13 from seed " + first + ", ";
+        int page = drawn[2] == 2 ? 1 : 0;
+        for (int q = 0; q < quills; q++) {
+            boolean isIt = q == drawn[0];
+            DUE.is(what + "softness of " + q, x.quill(q, 6), isIt ? new int[] {0, 22, 31}[drawn[2]] : 30);
+            DUE.is(what + "length of " + q, x.quill(q, 3), isIt && drawn[2] == 0 ? 94 : 99);
+        }
+        for (int h = 0; h < hands; h++) {
+            DUE.is(what + "pages of " + h, x.hand(h, 3), (h == 0 ? 30 * quills : 0) + (h == drawn[1] ? page : 0));
+        }
+        DUE.is(what + "the seed", x.seed(0), seed.intValueExact());
     }
 
     private static void promise14NotIfNone() {

@@ -23,6 +23,7 @@ public final class EdgesTriedTest {
         promise17UnknownAheadOfNone();
         promise17OfLikeOnesTheFirst();
         promise17MostTogether();
+        promise17FromNowOn();
         promise18HandsThereAre();
         promise18PagesFrom1To4();
         promise18ThePageFrom0On();
@@ -33,6 +34,7 @@ public final class EdgesTriedTest {
         promise18OfLikeOnesTheFirst();
         promise18MendedIfItCanBe();
         promise18TheBladeGetsBlunt();
+        promise18EachWayStartsFromNow();
         promise19QuillsAndHandsThereAre();
         promise19TwentyPages();
         promise19TheLeast();
@@ -211,8 +213,30 @@ public final class EdgesTriedTest {
         }
     }
 
+    /** No answer of an earlier call stays. */
+    private static void promise17FromNowOn() {
+        LeftQuills x = Due.with(office(2, 1));
+        DUE.is("17 together", x.toWhom(NONE), 50);
+        x.write(0, 0, 1);
+        DUE.is("17 the other one", x.toWhom(0), 1);
+        x.write(1, 0, 2);
+        DUE.is("17 fewer together", x.toWhom(NONE), 49);
+        DUE.is("17 the first again", x.toWhom(0), 0);
+        x.write(0, 0, 40);
+        x.write(1, 0, 40);
+        x.write(0, 0, 40);
+        x.write(1, 0, 40);
+        DUE.is("17 nothing good", x.toWhom(NONE), 0);
+        DUE.is("17 the first of like ones", x.toWhom(0), 0);
+    }
+
     private static void promise18HandsThereAre() {
         EDGE.known("18 hand", Edge::busy, (x, v) -> x.fastest(v, 1, NONE), 2);
+        LeftQuills y = Due.with("o1 1;q0 2 9 0 9;q0 2 9 0 5;h0 1 1;h0 1 9;h0 1 3;h0 1 5;");
+        int[] due = {NONE, 0, NONE, 1};
+        for (int h = 0; h < 4; h++) {
+            DUE.is("18 the quill of hand " + h, y.fastest(h, 1, 0), due[h]);
+        }
         EDGE.refused("18 no hands", () -> Due.with("o1 1;q0 1 0 0 1;"), x -> x.fastest(0, 1, NONE), UNKNOWN);
     }
 
@@ -324,6 +348,23 @@ public final class EdgesTriedTest {
         // the second blunt mend makes the nib 7, which is 2 beside
         DUE.is("18 three", x.fastest(0, 3, NONE), 8);
         DUE.is("18 the nib is too broad for a fourth", x.fastest(0, 4, NONE), NONE);
+    }
+
+    /** A way that was tried in vain ahead leaves its mends to no other. */
+    private static void promise18EachWayStartsFromNow() {
+        LeftQuills x = Due.with("o1 3;q0 1 0 9 5;q0 1 0 5 5;h0 9 5;");
+        x.write(0, 0, 3);
+        x.write(1, 0, 3);
+        // quill 0 first leaves a blunt blade for quill 1, which is too short for that; the other way about it does
+        DUE.is("18 two mends and another", x.fastest(0, 2, NONE), 11);
+        DUE.is("18 quill 1 first", x.fastest(0, 2, 0), 11);
+        DUE.is("18 quill 0 by the blunt blade", x.fastest(0, 2, 1), 10);
+        LeftQuills y = Due.with("o1 3;q0 2 9 99 2;q0 1 0 0 4;q0 1 0 9 1;h0 9 4;");
+        y.broaden(2);
+        // quill 0 is too fine till a blunt mend, also where it was tried mended ahead; quill 1 has one page
+        DUE.is("18 quill 0 is mended", y.fastest(0, 2, NONE), 7);
+        DUE.is("18 at page 0", y.fastest(0, 2, 0), 10);
+        DUE.is("18 and writes on", y.fastest(0, 2, 1), 0);
     }
 
     private static void promise19QuillsAndHandsThereAre() {
@@ -451,14 +492,14 @@ public final class EdgesTriedTest {
     }
 
     private static void promise22CutEachTime() {
-        LeftQuills x = cut(0);
         for (int n = 0; n <= 60; n++) {
+            LeftQuills x = cut(0);
             for (int q = 0; q <= 100; q++) {
                 DUE.is("22 " + n + " by " + q, x.crooked(n, q), odds(n, q));
             }
         }
-        DUE.is("22 cut behind the fifth", x.crooked(5, 33), 135012510);
-        DUE.is("22 60 by 50", x.crooked(60, 50), 0);
+        DUE.is("22 cut behind the fifth", cut(0).crooked(5, 33), 135012510);
+        DUE.is("22 60 by 50", cut(0).crooked(60, 50), 0);
     }
 
     private static void promise22AtMost100() {

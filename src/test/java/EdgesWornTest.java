@@ -20,6 +20,7 @@ public final class EdgesWornTest {
         promise24FromSoftness0();
         promise25NoneIfNonePartsThem();
         promise25TheGreatestPartIsLeast();
+        promise25AmongThoseThatFit();
         promise25OfLikeOnesTheLeast();
         promise26SoftnessFrom0To99();
         promise26QuillsThereAre();
@@ -166,6 +167,18 @@ public final class EdgesWornTest {
         DUE.is("25 of two with two, the first", Due.with("o1 1;q0 1 0 0 5;q0 2 0 0 5;h0 1 5;h0 1 5;h0 2 5;h0 2 5;").lookAt(), 0);
         // 1, 1, 2, 2 by quill 0; 4, 8, 12, 12 by quill 1: two are the greatest part by both
         DUE.is("25 two pairs first", Due.with("o1 1;q0 2 9 0 5;q0 1 0 0 5;h0 1 5;h0 2 5;h0 3 5;h0 3 5;").lookAt(), 0);
+    }
+
+    private static void promise25AmongThoseThatFit() {
+        // 4, 8, 8 by quill 0; 1, 1, 5 by quill 1
+        LeftQuills x = Due.with("o1 1;q0 1 0 0 5;q0 2 9 0 5;h0 1 5;h0 2 5;h1 1 5;");
+        x.worn(1, 1, 1);
+        DUE.is("24 hand 2 is out", x.whose(), 3);
+        DUE.is("25 hand 2 counts no more", x.lookAt(), 0);
+        x.tear();
+        x.worn(0, 1, 8);
+        DUE.is("24 hand 0 is out", x.whose(), 6);
+        DUE.is("25 the other quill", x.lookAt(), 1);
     }
 
     private static void promise25OfLikeOnesTheLeast() {
