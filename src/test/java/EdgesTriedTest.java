@@ -390,6 +390,8 @@ public final class EdgesTriedTest {
         DUE.is("19 12 a page", Due.with("o1 1;q0 1 0 0 5;h0 3 5;").byTurns(0, 0), 2);
         // by two 8 more each turn, 56 at the sixth; by three 16, 8, 2; 18, 10, 3; 19, 11, 3
         DUE.is("19 16 a page", Due.with("o1 1;q0 1 0 0 5;h0 4 5;").byTurns(0, 0), 3);
+        // by three 8 more each turn, 56 at the fifth; by four 24, 16, 8, 2; 26, 18, 10, 3; 27, 19, 11, 3
+        DUE.is("19 24 a page", Due.with("o1 1;q0 1 0 0 5;h0 6 5;").byTurns(0, 0), 4);
         // by four 8 more each turn, 56 at the fourth; by five 32, 24, 16, 8, 2; 34, 26, 18, 10, 3; 35
         DUE.is("19 32 a page", Due.with("o1 1;q0 1 0 0 5;h0 8 5;").byTurns(0, 0), 5);
         // by five 40, 32, 24, 16, 8; 48, 40, 32, 24, 16; 56; by six 40, .., 8, 2; 42, .., 10, 3; 43, .., 11, 3
