@@ -1,10 +1,14 @@
+import com.sun.source.tree.ArrayAccessTree;
+import com.sun.source.tree.AssignmentTree;
 import com.sun.source.tree.BinaryTree;
 import com.sun.source.tree.ClassTree;
 import com.sun.source.tree.CompilationUnitTree;
+import com.sun.source.tree.CompoundAssignmentTree;
 import com.sun.source.tree.DoWhileLoopTree;
 import com.sun.source.tree.ExpressionTree;
 import com.sun.source.tree.ForLoopTree;
 import com.sun.source.tree.IdentifierTree;
+import com.sun.source.tree.IfTree;
 import com.sun.source.tree.MemberSelectTree;
 import com.sun.source.tree.MethodInvocationTree;
 import com.sun.source.tree.MethodTree;
@@ -12,6 +16,7 @@ import com.sun.source.tree.NewArrayTree;
 import com.sun.source.tree.NewClassTree;
 import com.sun.source.tree.Tree;
 import com.sun.source.tree.TypeCastTree;
+import com.sun.source.tree.UnaryTree;
 import com.sun.source.tree.VariableTree;
 import com.sun.source.tree.WhileLoopTree;
 import com.sun.source.util.JavacTask;
@@ -27,6 +32,7 @@ import java.util.Map;
 import java.util.Set;
 import java.util.TreeMap;
 import java.util.TreeSet;
+import java.util.regex.Pattern;
 import javax.lang.model.element.Element;
 import javax.lang.model.element.ElementKind;
 import javax.lang.model.element.ExecutableElement;
@@ -50,6 +56,8 @@ public final class LanguageTest extends TreePathScanner<Void, Void> {
     private static final Set<Tree.Kind> LEFT_OUT = Set.of(
         Tree.Kind.THROW, Tree.Kind.TRY, Tree.Kind.CATCH, Tree.Kind.SYNCHRONIZED, Tree.Kind.ASSERT, Tree.Kind.LAMBDA_EXPRESSION,
         Tree.Kind.MEMBER_REFERENCE, Tree.Kind.IMPORT, Tree.Kind.PACKAGE, Tree.Kind.INSTANCE_OF, Tree.Kind.DOUBLE_LITERAL, Tree.Kind.FLOAT_LITERAL);
+    private static final Set<Tree.Kind> CHANGES = Set.of(
+        Tree.Kind.PREFIX_INCREMENT, Tree.Kind.PREFIX_DECREMENT, Tree.Kind.POSTFIX_INCREMENT, Tree.Kind.POSTFIX_DECREMENT);
     private static final Set<String> LIBRARY = Set.of(
         "java.lang.Math.max", "java.lang.Math.min", "java.lang.Math.abs", "java.lang.Integer.bitCount", "java.lang.System.arraycopy");
     private static final Due DUE = new Due();
@@ -59,6 +67,8 @@ public final class LanguageTest extends TreePathScanner<Void, Void> {
     private final Deque<String> methods = new ArrayDeque<>();
     private final Map<String, Set<String>> callees = new TreeMap<>();
     private final Set<String> privateMethods = new TreeSet<>();
+    /** The conditions of the method's ifs so far. */
+    private final StringBuilder looked = new StringBuilder();
     private int classes = 0;
 
     private LanguageTest(Trees trees, CompilationUnitTree unit) {
@@ -121,6 +131,7 @@ public final class LanguageTest extends TreePathScanner<Void, Void> {
         } else {
             rule(2, name + " is a member", element.getEnclosingElement().getKind().isClass());
             rule(2, name + " is static", modifiers.contains(Modifier.STATIC));
+            rule(12, name + " is final, so that none of its methods can be overridden", modifiers.contains(Modifier.FINAL));
             rule(1, name + " is hidden", !modifiers.contains(Modifier.PUBLIC) && !modifiers.contains(Modifier.PROTECTED));
             rule(2, name + " has no parent", tree.getExtendsClause() == null && tree.getImplementsClause().isEmpty());
         }
@@ -175,6 +186,7 @@ public final class LanguageTest extends TreePathScanner<Void, Void> {
             privateMethods.add(name);
         }
         methods.push(name);
+        looked.setLength(0);
         super.visitMethod(tree, nothing);
         methods.pop();
         return null;
@@ -190,11 +202,15 @@ public final class LanguageTest extends TreePathScanner<Void, Void> {
     public Void visitMethodInvocation(MethodInvocationTree tree, Void nothing) {
         ExecutableElement called = (ExecutableElement) trees.getElement(new TreePath(getCurrentPath(), tree.getMethodSelect()));
         boolean isSuper = called.getKind() == ElementKind.CONSTRUCTOR;
+        rule(12, "a constructor calls no method of its own, " + place(tree), isSuper || !isMadeWithTheObject());
         if (isOwn(called) && !methods.isEmpty()) {
             callees.get(methods.peek()).add(name(called));
         } else if (!isSuper) {
             rule(4, "the library has " + called.getEnclosingElement() + "." + called.getSimpleName() + ", " + place(tree),
                 LIBRARY.contains(called.getEnclosingElement() + "." + called.getSimpleName()));
+            if (called.getSimpleName().contentEquals("arraycopy")) {
+                rowIsChanged(tree.getArguments().get(2));
+            }
         }
         return super.visitMethodInvocation(tree, nothing);
     }
@@ -238,7 +254,64 @@ public final class LanguageTest extends TreePathScanner<Void, Void> {
     public Void visitBinary(BinaryTree tree, Void nothing) {
         TypeMirror type = trees.getTypeMirror(getCurrentPath());
         rule(10, "no texts are joined, " + place(tree), type == null || type.getKind().isPrimitive());
+        if (tree.getKind() == Tree.Kind.DIVIDE || tree.getKind() == Tree.Kind.REMAINDER) {
+            rule(7, "the divisor is looked at, " + place(tree), isLookedAt(tree.getRightOperand()));
+        }
         return super.visitBinary(tree, nothing);
+    }
+
+    /** A constant, 1 at least by Math.max, or named in the condition of an if ahead of it in the same method. */
+    private boolean isLookedAt(ExpressionTree divisor) {
+        if (divisor.getKind() == Tree.Kind.INT_LITERAL) {
+            return !divisor.toString().equals("0");
+        }
+        Element element = trees.getElement(new TreePath(getCurrentPath(), divisor));
+        if (element instanceof VariableElement variable && variable.getConstantValue() != null) {
+            return ((Number) variable.getConstantValue()).longValue() != 0;
+        }
+        return divisor.toString().startsWith("Math.max(1, ") || Pattern.compile("\\b" + Pattern.quote(divisor.toString()) + "\\b").matcher(looked).find();
+    }
+
+    @Override
+    public Void visitIf(IfTree tree, Void nothing) {
+        looked.append(tree.getCondition()).append('\n');
+        return super.visitIf(tree, nothing);
+    }
+
+    // ---- what is changed
+
+    /** Only rows and fields of objects, and what is local; a row that was handed over could be a static one. */
+    private void changed(ExpressionTree target) {
+        if (target instanceof ArrayAccessTree access) {
+            rowIsChanged(access.getExpression());
+        }
+    }
+
+    private void rowIsChanged(ExpressionTree row) {
+        Element element = trees.getElement(new TreePath(getCurrentPath(), row));
+        rule(5, "a row of an object is changed, " + place(row),
+            element != null && element.getKind() == ElementKind.FIELD && !element.getModifiers().contains(Modifier.STATIC));
+    }
+
+    @Override
+    public Void visitAssignment(AssignmentTree tree, Void nothing) {
+        changed(tree.getVariable());
+        return super.visitAssignment(tree, nothing);
+    }
+
+    @Override
+    public Void visitCompoundAssignment(CompoundAssignmentTree tree, Void nothing) {
+        changed(tree.getVariable());
+        rule(7, "no divisor is hidden, " + place(tree), tree.getKind() != Tree.Kind.DIVIDE_ASSIGNMENT && tree.getKind() != Tree.Kind.REMAINDER_ASSIGNMENT);
+        return super.visitCompoundAssignment(tree, nothing);
+    }
+
+    @Override
+    public Void visitUnary(UnaryTree tree, Void nothing) {
+        if (CHANGES.contains(tree.getKind())) {
+            changed(tree.getExpression());
+        }
+        return super.visitUnary(tree, nothing);
     }
 
     // ---- loops
@@ -269,6 +342,8 @@ public final class LanguageTest extends TreePathScanner<Void, Void> {
     @Override
     public Void visitIdentifier(IdentifierTree tree, Void nothing) {
         Element element = trees.getElement(getCurrentPath());
+        boolean isWhole = tree.getName().contentEquals("this") && !(getCurrentPath().getParentPath().getLeaf() instanceof MemberSelectTree);
+        rule(12, "the object is not handed out, " + place(tree), !isWhole);
         boolean isType = element instanceof TypeElement;
         rule(3, "a class of its own or of the library: " + tree + ", " + place(tree),
             !isType || isOwn(element) || Set.of("Math", "Integer", "System").contains(tree.getName().toString()));
